@@ -12,6 +12,7 @@ public final class BootTest {
         belowTheCounterNothingRuns();
         withoutARecord();
         confirms();
+        confirmTakesTheVersionThatRuns();
         confirmKeepsAHigherCounter();
         confirmWantsATrial();
         ticks();
@@ -183,6 +184,15 @@ public final class BootTest {
         x.boot();
         Due.is("confirm(): a counter may be the same number", x.confirm(), -100);
         Due.is("running()", x.running(), 1);
+    }
+
+    private static void confirmTakesTheVersionThatRuns() {
+        TwoSlots x = updated(6);
+        x.boot();
+        x.make(50, 1, 0, 0);
+        x.pack(TwoSlots.NONE);
+        x.slot(0, 2);
+        Due.is("confirm() with another header on the tape", x.confirm(), 6);
     }
 
     private static void confirmKeepsAHigherCounter() {

@@ -52,6 +52,12 @@ public final class MakerTest {
         x.make(9, 3, 2, 250);
         Due.is("pack(-1)", x.pack(TwoSlots.NONE), 64);
         Due.is("the header", Due.tape(x), HEADER);
+        for (int i = 0; i < 64; i++) {
+            x.rot(2, i, 255);
+        }
+        x.slot(0, 1);
+        x.pack(TwoSlots.NONE);
+        Due.is("the header behind a look at a rotted one", Due.tape(x), HEADER);
     }
 
     private static void packsWhatThereIs() {

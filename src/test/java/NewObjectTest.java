@@ -20,6 +20,8 @@ public final class NewObjectTest {
         Due.is("pack(-1) of a maker that has nothing", x.pack(TwoSlots.NONE), TwoSlots.UNKNOWN);
         Due.is("pack(0) of a maker that has nothing", x.pack(0), TwoSlots.UNKNOWN);
         Due.is("start() of a new object", x.start(), TwoSlots.STATE);
+        Due.is("block() of a new object", x.block(), TwoSlots.STATE);
+        Due.is("finish() of a new object", x.finish(), TwoSlots.STATE);
     }
 
     private static void headersAndFirstRecord() {

@@ -63,10 +63,13 @@ public final class RandomRunsTest {
     /** An update that may go wrong or be left at any point. */
     private void update() {
         int size = 1 + random.nextInt(random.nextInt(6) == 0 ? 30 : 3);
-        ask(0, version(), size, random.nextInt(4), random.nextInt());
+        ask(0, nextVersion(), size, keyToUse(), random.nextInt());
         ask(1, Model.NONE, 0, 0, 0);
         slip();
-        ask(3, 0, 0, 0, 0);
+        boolean taken = ask(3, 0, 0, 0, 0) >= 0;
+        if (!taken && random.nextInt(8) != 0) {
+            return;
+        }
         int come = random.nextInt(8) == 0 ? random.nextInt(size + 1) : size;
         for (int i = 0; i < come; i++) {
             ask(1, i, 0, 0, 0);
@@ -77,6 +80,20 @@ public final class RandomRunsTest {
             any();
         }
         ask(5, 0, 0, 0, 0);
+    }
+
+    /** Mostly one that may run; the model is asked, so that no call of the device is used for it. */
+    private int nextVersion() {
+        return random.nextInt(12) == 0 ? version() : model.call(17, 5, 0, 0, 0) + random.nextInt(8) / 2 - (random.nextInt(8) == 0 ? 1 : 0);
+    }
+
+    private int keyToUse() {
+        int k = random.nextInt(4);
+        int revoked = model.call(17, 4, 0, 0, 0);
+        for (int i = 0; i < 4 && (revoked >> k & 1) == 1 && random.nextInt(16) != 0; i++) {
+            k = (k + 1) % 4;
+        }
+        return k;
     }
 
     private void slip() {
@@ -126,15 +143,16 @@ public final class RandomRunsTest {
         return EDGES[random.nextInt(EDGES.length)];
     }
 
-    private void ask(int method, int a, int b, int c, int d) {
+    private int ask(int method, int a, int b, int c, int d) {
         if (asked == CALLS || wrong) {
-            return;
+            return 0;
         }
         asked++;
         int got = answer(method, a, b, c, d);
         int want = model.call(method, a, b, c, d);
         wrong = got != want;
         Due.is(name + ", call " + asked + ": " + NAMES[method] + " with " + a + ", " + b + ", " + c + ", " + d, got, want);
+        return got;
     }
 
     private int answer(int method, int a, int b, int c, int d) {

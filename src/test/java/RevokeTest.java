@@ -62,7 +62,9 @@ public final class RevokeTest {
         TwoSlots x = Due.booted(5);
         Due.is("revoke(0)", x.revoke(0), TwoSlots.STATE);
         Due.settle(x, 6, 1, 2, 0);
+        x.slot(0, 4);
         Due.is("revoke(2)", x.revoke(2), TwoSlots.STATE);
+        x.slot(0, 4);
         Due.is("revoke(0)", x.revoke(0), 1);
     }
 
