@@ -447,6 +447,7 @@ public final class TwoSlots {
 
     private long bodyDigest(int s, int version, int blocks) {
         int body = bodyStart(s);
+        // "As a long": as Java widens an int, so with its sign.
         return digest((long) version, flash.cells, body, body + blocks * SECTOR);
     }
 
