@@ -447,8 +447,12 @@ public final class TwoSlots {
 
     private long bodyDigest(int s, int version, int blocks) {
         int body = bodyStart(s);
-        // "As a long": as Java widens an int, so with its sign.
-        return digest((long) version, flash.cells, body, body + blocks * SECTOR);
+        return digest(withoutSign(version), flash.cells, body, body + blocks * SECTOR);
+    }
+
+    /** A VERSION has no sign: a body's digest begins with 0 .. 4294967295, never with a number below 0. */
+    private static long withoutSign(int version) {
+        return version & 0xFFFFFFFFL;
     }
 
     private static int otherThan(int s) {
@@ -767,7 +771,7 @@ public final class TwoSlots {
 
         /** The row takes the blocks one by one, so that no body need be made. */
         long bodyDigest(byte[] row) {
-            long it = (long) version;
+            long it = withoutSign(version);
             for (int i = 0; i < size; i++) {
                 layBlock(i, row);
                 it = digest(it, row, 0, SECTOR);

@@ -1,13 +1,20 @@
-/** Promises 2 to 4: make, pack, alter. The header was worked out outside of Java. */
+/** Promises 2 to 4: make, pack, alter. The headers were worked out outside of Java. */
 public final class MakerTest {
     private static final String HEADER = "54574f53000000090000000302000000000000004adc53f2e886b445"
         + "000000000000000000000000000000000000000000000000000000009e5085afeb909d52";
+    private static final String HEADER_OF_MINUS_1 = "54574f53ffffffff0000000302000000000000002d13af46b7fef15d"
+        + "00000000000000000000000000000000000000000000000000000000c0e847fda146d471";
+    private static final String HEADER_OF_THE_LEAST = "54574f538000000000000003020000000000000040cc5f2dda531361"
+        + "00000000000000000000000000000000000000000000000000000000b505a062401d4f00";
+    private static final String HEADER_OF_THE_GREATEST = "54574f537fffffff000000030200000000000000e379da95b4e65c0a"
+        + "000000000000000000000000000000000000000000000000000000003eecf0e953a97c9a";
 
     public static void main(String[] args) {
         makeTakesItsEdges();
         refusedMakeKeepsWhatWasMade();
         packsBlocks();
         packsHeaders();
+        packsHeadersOfVersionsWithoutSign();
         packsWhatThereIs();
         alters();
         worksWhileDown();
@@ -58,6 +65,19 @@ public final class MakerTest {
         x.slot(0, 1);
         x.pack(TwoSlots.NONE);
         Due.is("the header behind a look at a rotted one", Due.tape(x), HEADER);
+    }
+
+    private static void packsHeadersOfVersionsWithoutSign() {
+        TwoSlots x = new TwoSlots(0, 0, -5L);
+        x.make(-1, 3, 2, 250);
+        Due.is("pack(-1) of version -1", x.pack(TwoSlots.NONE), 64);
+        Due.is("the header of version -1", Due.tape(x), HEADER_OF_MINUS_1);
+        x.make(Integer.MIN_VALUE, 3, 2, 250);
+        x.pack(TwoSlots.NONE);
+        Due.is("the header of the least version", Due.tape(x), HEADER_OF_THE_LEAST);
+        x.make(Integer.MAX_VALUE, 3, 2, 250);
+        x.pack(TwoSlots.NONE);
+        Due.is("the header of the greatest version", Due.tape(x), HEADER_OF_THE_GREATEST);
     }
 
     private static void packsWhatThereIs() {

@@ -188,7 +188,7 @@ final class Model {
         return it;
     }
 
-    private static long bodyDigest(int version, List<int[]> body) {
+    private static long bodyDigest(long version, List<int[]> body) {
         long it = version;
         for (int[] block : body) {
             it = digest(it, block, 64);
@@ -211,7 +211,7 @@ final class Model {
         put(h, 4, version);
         put(h, 8, size);
         h[12] = k;
-        long told = bodyDigest(version, body);
+        long told = bodyDigest(number(h, 4), body);
         put(h, 20, told >> 32);
         put(h, 24, told);
         long seal = digest(keyNumber(k), h, 56);
@@ -235,7 +235,7 @@ final class Model {
     }
 
     private boolean digestIsRight(int[] h, int slot) {
-        long told = bodyDigest((int) number(h, 4), bodyOf(slot, (int) number(h, 8)));
+        long told = bodyDigest(number(h, 4), bodyOf(slot, (int) number(h, 8)));
         return number(h, 20) == (told >>> 32) && number(h, 24) == (told & 0xFFFFFFFFL);
     }
 

@@ -2,8 +2,10 @@
 public final class NewObjectTest {
     private static final String FIRST = "54574f5300000007000000020000000000000000afb0a2724878c241"
         + "00000000000000000000000000000000000000000000000000000000acbe9a8dfb2b2870";
-    private static final String UNSIGNED = "54574f53ffffffff000000060000000000000000346f95983fb623bb"
-        + "0000000000000000000000000000000000000000000000000000000089f83110902d9947";
+    private static final String UNSIGNED = "54574f53ffffffff0000000600000000000000008d6b7977cf7a42ad"
+        + "000000000000000000000000000000000000000000000000000000005f344b84a511069b";
+    private static final String LEAST = "54574f5380000000000000020000000000000000336786bd308eaeaf"
+        + "000000000000000000000000000000000000000000000000000000003f11224b29e4940c";
 
     public static void main(String[] args) {
         nothingRunsAndNothingIsCounted();
@@ -33,6 +35,9 @@ public final class NewObjectTest {
         Due.is("first record of version -1", Due.bytes(x, 0, 0, 16), "0000000100ff0000ffffffff0000005a");
         Due.is("slot(0, 0) of version -1", x.slot(0, 0), 1);
         Due.is("slot(0, 2) of version -1", x.slot(0, 2), -1);
+        x = new TwoSlots(Integer.MIN_VALUE, 1, 0L);
+        Due.is("header of the least version", Due.bytes(x, 2, 0, 64), LEAST);
+        Due.is("slot(0, 0) of the least version", x.slot(0, 0), 1);
     }
 
     private static void bodyAndErasedRest() {

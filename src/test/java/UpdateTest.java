@@ -14,6 +14,7 @@ public final class UpdateTest {
         finishes();
         finishWantsAllBlocks();
         finishLooksAtTheFlash();
+        finishTakesVersionsWithoutSign();
         withoutARecord();
         largestImage();
         toSlotZero();
@@ -208,6 +209,16 @@ public final class UpdateTest {
         Due.is("octet(33, 0): bits are only cleared", x.octet(33, 0), 80);
         Due.is("slot(1, 1)", x.slot(1, 1), 0);
         Due.is("record(2)", x.record(2), 1);
+    }
+
+    private static void finishTakesVersionsWithoutSign() {
+        int[] versions = {-1, Integer.MIN_VALUE, Integer.MAX_VALUE};
+        for (int version : versions) {
+            TwoSlots x = Due.booted(5);
+            Due.is("finish() of version " + version, Due.update(x, version, 2, 1, 9), 1);
+            Due.is("slot(1, 0) of version " + version, x.slot(1, 0), 1);
+            Due.is("boot() of version " + version, x.boot(), 1);
+        }
     }
 
     private static void withoutARecord() {
