@@ -16,9 +16,15 @@ final class Due {
         if (!got.equals(want)) {
             wrong++;
             if (wrong <= MOST_TOLD) {
-                System.out.println(call + " answered " + got + ", due is " + want);
+                System.out.println(place() + ": " + call + " answered " + got + ", due is " + want);
             }
         }
+    }
+
+    /** Where in a test the answer was asked for. */
+    private static String place() {
+        return StackWalker.getInstance().walk(frames -> frames.filter(f -> !f.getClassName().equals("Due"))
+            .findFirst().map(f -> f.getClassName() + "." + f.getMethodName() + ", line " + f.getLineNumber()).orElse(""));
     }
 
     static void end() {
@@ -66,7 +72,79 @@ final class Due {
         return x.confirm();
     }
 
-    /** Power goes now: the next write is an append of the log, of which nothing is done. */
+    /** An object of version 5 with an update of one block, key 1, in slot 1: it is to be tried three times. */
+    static TwoSlots updated(int version) {
+        TwoSlots x = booted(5);
+        is("finish() of an update", update(x, version, 1, 1, 3), 1);
+        return x;
+    }
+
+    /** The same, and slot 1 runs on trial. */
+    static TwoSlots onTrial(int version) {
+        TwoSlots x = updated(version);
+        is("boot() on trial", x.boot(), 1);
+        return x;
+    }
+
+    /** Slot 1 is active, with this version as counter; slot 0 has version 5. */
+    static TwoSlots confirmed(int version) {
+        TwoSlots x = onTrial(version);
+        is("confirm()", x.confirm(), version);
+        return x;
+    }
+
+    /** A byte of the flash becomes this. */
+    static void poke(TwoSlots x, int sector, int i, int value) {
+        is("rot() to " + value, x.rot(sector, i, x.octet(sector, i) ^ value), value);
+    }
+
+    /** A byte of the newest record becomes this. */
+    static void pokeRecord(TwoSlots x, int i, int value) {
+        poke(x, x.record(6), 16 * x.record(7) + i, value);
+    }
+
+    /** The newest record's serial becomes this. */
+    static void pokeSerial(TwoSlots x, int serial) {
+        int at = 16 * x.record(7);
+        int sector = x.record(6);
+        for (int i = 0; i < 4; i++) {
+            poke(x, sector, at + i, serial >>> 24 - 8 * i & 255);
+        }
+        is("record(0)", x.record(0), serial);
+    }
+
+    /** The last byte of each record is turned round: none is whole any more, or each is again. */
+    static void turnRecords(TwoSlots x) {
+        for (int i = 15; i < 128; i += 16) {
+            int mark = x.octet(i / 64, i % 64);
+            if (mark == 90 || mark == (90 ^ 255)) {
+                x.rot(i / 64, i % 64, 255);
+            }
+        }
+    }
+
+    static long digest(long from, int[] bytes) {
+        long it = from;
+        for (int b : bytes) {
+            long mixed = it ^ b;
+            it = (mixed << 13 | mixed >>> 51) * 0x9E3779B97F4A7C15L;
+        }
+        return it;
+    }
+
+    /** The tape's seal becomes the right one of its 56 bytes before it, by the key that they name. */
+    static void reseal(TwoSlots x, long key) {
+        int[] bytes = new int[56];
+        for (int i = 0; i < 56; i++) {
+            bytes[i] = x.alter(i, 0);
+        }
+        long seal = digest(key ^ bytes[12] * 0x100000001B3L, bytes);
+        for (int i = 56; i < 64; i++) {
+            x.alter(i, x.alter(i, 0) ^ (int) (seal >>> 8 * (63 - i)) & 255);
+        }
+    }
+
+    /** Power goes now: the next write is an erase, of which nothing is done. */
     static void down(TwoSlots x) {
         x.cut(0, 0);
         x.make(-1, 1, 0, 0);
