@@ -5,6 +5,7 @@ public final class Promise01EdgesTest {
     public static void main(String[] args) {
         sizesWrapRound();
         versionsOfEveryKind();
+        keyZero();
         keysOfEveryKind();
         bytesOfTheLargestBody();
         theFirstRecord();
@@ -33,9 +34,15 @@ public final class Promise01EdgesTest {
             TwoSlots x = new TwoSlots(version, 2, 9L);
             Due.is("slot(0, 0) of version " + version, x.slot(0, 0), 1);
             Due.is("slot(0, 2) of version " + version, x.slot(0, 2), version);
-            Due.is("slot(0, 4) of version " + version, x.slot(0, 4), 0);
             Due.is("boot() of version " + version, x.boot(), 0);
         }
+    }
+
+    /** Promise 1: "KEY 0" */
+    private static void keyZero() {
+        TwoSlots x = new TwoSlots(3, 0, 0x0302010003020100L);
+        Due.is("slot(0, 4)", x.slot(0, 4), 0);
+        Due.is("octet(2, 12)", x.octet(2, 12), 0);
     }
 
     /** Promise 1, of Terms 3: "Key k has the number key xor (k times 0x100000001B3), key being that of the constructor." */

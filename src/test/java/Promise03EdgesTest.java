@@ -1,4 +1,4 @@
-/** The boundary cases of promise 3: pack. The whole headers were worked out outside of Java. */
+/** The boundary cases of promise 3: pack. The headers, digests and seals were worked out outside of Java. */
 public final class Promise03EdgesTest {
     private static final String HEADER_OF_MINUS_1 = "54574f53ffffffff0000000302000000000000002d13af46b7fef15d"
         + "00000000000000000000000000000000000000000000000000000000c0e847fda146d471";
@@ -14,6 +14,7 @@ public final class Promise03EdgesTest {
         headersOfExtremeVersions();
         numbersBeginWithTheHighestByte();
         headersOfTheSmallestAndTheLargest();
+        digestsWrap();
         everyKeyHasItsNumber();
         aTapeIsLaidAnew();
         aHeaderIsRightWhateverWasLookedAt();
@@ -91,6 +92,21 @@ public final class Promise03EdgesTest {
             TwoSlots x = made(9, size, 2);
             x.pack(TwoSlots.NONE);
             Due.is("the digest of " + size, Due.tape(x).substring(40, 56), String.format("%016x", Due.digest(9L, body)));
+        }
+    }
+
+    /** Promise 3, of Terms 3: "it becomes (it xor b), turned left by 13 bits, times 0x9E3779B97F4A7C15 (wrapping)." */
+    private static void digestsWrap() {
+        long[] keys = {0L, -1L, Long.MAX_VALUE, Long.MIN_VALUE};
+        int[][] made = {{0, 1, 0, 0}, {0, 30, 3, 255}, {-1, 30, 3, -1}, {Integer.MIN_VALUE, 1, 1, Integer.MIN_VALUE}};
+        String[] digests = {"be5292507a1cd572", "00d7f9ca06b3d08d", "a4de767df641f1bf", "e982a4933de67d07"};
+        String[] seals = {"db2b4531dffd8678", "a28b0ba3a846e320", "d2c4918442e63757", "aa7c695f7771ccbe"};
+        for (int n = 0; n < 4; n++) {
+            TwoSlots x = new TwoSlots(0, 0, keys[n]);
+            x.make(made[n][0], made[n][1], made[n][2], made[n][3]);
+            x.pack(TwoSlots.NONE);
+            Due.is("the body's digest, image " + n, Due.tape(x).substring(40, 56), digests[n]);
+            Due.is("the seal, image " + n, Due.tape(x).substring(112), seals[n]);
         }
     }
 

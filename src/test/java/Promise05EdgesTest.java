@@ -26,6 +26,7 @@ public final class Promise05EdgesTest {
         whatIsTakenIsUsedUp();
         downComesFirst();
         stateComesBeforeBad();
+        refusedOnesChangeNothing();
         lostAtTheErase();
         Due.end();
     }
@@ -45,7 +46,7 @@ public final class Promise05EdgesTest {
         return x.offer();
     }
 
-    /** Promise 5: "below the COUNTER", and of Terms 3: "VERSION (without sign) is not below the COUNTER" */
+    /** Promise 5, of Terms 5: "OFFERED is a header: RIGHT, its VERSION not below the COUNTER" and Terms 3: "VERSION (4, without sign)" */
     private static void notBelowTheCounter() {
         int least = Integer.MIN_VALUE;
         int most = Integer.MAX_VALUE;
@@ -305,6 +306,22 @@ public final class Promise05EdgesTest {
         Due.is("count(7)", x.count(7), 64);
         x = Due.onTrial(6);
         Due.is("offer(): on trial, and there is no tape", x.offer(), TwoSlots.STATE);
+    }
+
+    /** Promise 5, of Terms 5: "are told by calls that do nothing else" */
+    private static void refusedOnesChangeNothing() {
+        TwoSlots x = Due.onTrial(6);
+        x.tick(3);
+        x.pack(TwoSlots.NONE);
+        String before = Due.look(x);
+        Due.is("offer() on trial", x.offer(), TwoSlots.STATE);
+        Due.is("nothing is other", Due.look(x), before);
+        x = Due.updated(6);
+        Due.down(x);
+        x.pack(TwoSlots.NONE);
+        before = Due.look(x);
+        Due.is("offer() while DOWN", x.offer(), TwoSlots.DOWN);
+        Due.is("nothing is other while DOWN", Due.look(x), before);
     }
 
     /** Promise 5: "what was offered before stays), LOST." */

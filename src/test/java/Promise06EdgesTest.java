@@ -3,6 +3,7 @@ public final class Promise06EdgesTest {
     public static void main(String[] args) {
         howManyAreAwaited();
         theSectorIsErasedAndProgrammed();
+        fourLines();
         theLargestBodyOfSlotOne();
         theLargestBodyOfSlotZero();
         nothingIsOffered();
@@ -13,6 +14,7 @@ public final class Promise06EdgesTest {
         goesOnWithoutARecord();
         downComesFirst();
         stateComesBeforeBad();
+        refusedOnesChangeNothing();
         lostAtEachWrite();
         Due.end();
     }
@@ -44,6 +46,19 @@ public final class Promise06EdgesTest {
         }
         Due.is("count(0)", x.count(0), 6);
         Due.is("count(1)", x.count(1), 2);
+    }
+
+    /** Promise 6, of Terms 1: "A LINE is 16 bytes of a sector, at 0, 16, 32 or 48" */
+    private static void fourLines() {
+        for (int line = 0; line < 4; line++) {
+            TwoSlots x = Due.booted(5);
+            Due.offer(x, 6, 1, 0, 100);
+            x.cut(1 + line, 1);
+            Due.is("block()", Due.blocks(x, 0, 1), TwoSlots.LOST);
+            Due.is("the first byte of line " + line, x.octet(34, 16 * line), 100 + 16 * line);
+            Due.is("the second byte of line " + line, x.octet(34, 16 * line + 1), 255);
+            Due.is("the byte before line " + line, x.octet(34, Math.max(16 * line - 1, 0)), 100 + Math.max(16 * line - 1, 0));
+        }
     }
 
     /** Promise 6, of Terms 1: "33 .. 63 SLOT 1: of each the first one the HEADER, 30 the BODY (block i is its sector i)." */
@@ -165,6 +180,22 @@ public final class Promise06EdgesTest {
         Due.offer(x, 6, 1, 0, 0);
         Due.blocks(x, 0, 1);
         Due.is("block(): none is awaited, and there is no tape", x.block(), TwoSlots.STATE);
+    }
+
+    /** Promise 6, of Terms 5: "are told by calls that do nothing else" */
+    private static void refusedOnesChangeNothing() {
+        TwoSlots x = Due.booted(5);
+        Due.offer(x, 6, 1, 0, 0);
+        Due.blocks(x, 0, 1);
+        x.pack(0);
+        String before = Due.look(x);
+        Due.is("block() when none is awaited", x.block(), TwoSlots.STATE);
+        Due.is("nothing is other", Due.look(x), before);
+        Due.down(x);
+        x.pack(0);
+        before = Due.look(x);
+        Due.is("block() while DOWN", x.block(), TwoSlots.DOWN);
+        Due.is("nothing is other while DOWN", Due.look(x), before);
     }
 
     /** Promise 6: "BAD (no 64 bytes), LOST." */

@@ -20,6 +20,7 @@ public final class Promise07EdgesTest {
         withoutARecord();
         downComesFirst();
         stateComesBeforeBad();
+        refusedOnesChangeNothing();
         Due.end();
     }
 
@@ -44,7 +45,7 @@ public final class Promise07EdgesTest {
         Due.is("finish() behind boot()", x.finish(), TwoSlots.STATE);
     }
 
-    /** Promise 7: "or blocks are awaited" */
+    /** Promise 7, of Terms 5: "FINISHED, behind the last one", and "or blocks are awaited" */
     private static void blocksAreAwaited() {
         TwoSlots x = Due.booted(5);
         Due.offer(x, 6, 30, 0, 0);
@@ -260,5 +261,18 @@ public final class Promise07EdgesTest {
         x.rot(34, 0, 1);
         Due.turnRecords(x);
         Due.is("finish(): there is no record, and the digest is another", x.finish(), TwoSlots.STATE);
+    }
+
+    /** Promise 7, of Terms 5: "are told by calls that do nothing else" */
+    private static void refusedOnesChangeNothing() {
+        TwoSlots x = Due.booted(5);
+        Due.offer(x, 6, 2, 0, 0);
+        Due.blocks(x, 0, 1);
+        x.pack(1);
+        String before = Due.look(x);
+        Due.is("finish() with a block awaited", x.finish(), TwoSlots.STATE);
+        Due.is("nothing is other", Due.look(x), before);
+        Due.is("block(): the tape stayed", x.block(), 0);
+        Due.is("finish()", x.finish(), 1);
     }
 }

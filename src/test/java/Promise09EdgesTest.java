@@ -16,6 +16,7 @@ public final class Promise09EdgesTest {
         beforeTheLastTick();
         withoutARecord();
         downComesFirst();
+        refusedOnesChangeNothing();
         lostAtTheRecord();
         aRecordThatIsNotWhole();
         Due.end();
@@ -159,6 +160,16 @@ public final class Promise09EdgesTest {
         Due.is("confirm(): DOWN, and nothing is on trial", x.confirm(), TwoSlots.DOWN);
     }
 
+    /** Promise 9, of Terms 5: "are told by calls that do nothing else" */
+    private static void refusedOnesChangeNothing() {
+        TwoSlots x = Due.updated(6);
+        Due.offer(x, 6, 2, 1, 0);
+        x.pack(0);
+        String before = Due.look(x);
+        Due.is("confirm() when nothing is on trial", x.confirm(), TwoSlots.STATE);
+        Due.is("nothing is other", Due.look(x), before);
+    }
+
     /** Promise 9: "STATE (nothing is on trial), LOST." */
     private static void lostAtTheRecord() {
         for (int tear = 0; tear < 16; tear++) {
@@ -174,7 +185,7 @@ public final class Promise09EdgesTest {
         }
     }
 
-    /** Promise 9, of Terms 2: "(What is the newest is told by what lies in the flash, also behind this.)" */
+    /** Promise 9, of Terms 2: "(What is the newest is told by what lies in the flash, also behind this.)", and "the COUNTER then" */
     private static void aRecordThatIsNotWhole() {
         TwoSlots x = Due.onTrial(6);
         Due.pokeSerial(x, 0xFFFFFF);

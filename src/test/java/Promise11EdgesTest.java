@@ -34,7 +34,7 @@ public final class Promise11EdgesTest {
         Due.is("record(0)", x.record(0), 1);
     }
 
-    /** Promise 11, of Terms 2: "REVOKED (keys as bits)" */
+    /** Promise 11, of Terms 2: "REVOKED (keys as bits)", and "A key is REVOKED: a record with it is appended" */
     private static void firstAndLastKey() {
         TwoSlots x = Due.booted(5);
         Due.is("revoke(3)", x.revoke(3), 1);

@@ -27,6 +27,7 @@ public final class Promise19EdgesTest {
         fromTheSecondSectorToTheFirst();
         aNewestThatIsNotTheLast();
         asTheNewestIs();
+        theBytesBehindTheCounter();
         Due.end();
     }
 
@@ -371,5 +372,15 @@ public final class Promise19EdgesTest {
         Due.pokeRecord(x, 7, 0x58);
         x.revoke(2);
         Due.is("the record", Due.bytes(x, 0, 16, 16), "00000002" + "00" + "ff" + "02" + "5c" + "00000005" + "0000005a");
+    }
+
+    /** Promise 19, of Terms 2: "COUNTER (4), two bytes 0, a byte 0, a byte 90.": also where the newest's have rotted. */
+    private static void theBytesBehindTheCounter() {
+        TwoSlots x = Due.booted(5);
+        for (int i = 12; i < 15; i++) {
+            Due.pokeRecord(x, i, 255);
+        }
+        x.revoke(1);
+        Due.is("its last four bytes", Due.bytes(x, 0, 28, 4), "0000005a");
     }
 }
