@@ -7,7 +7,7 @@ import java.nio.file.Files;
 import java.nio.file.Path;
 import java.util.TreeSet;
 
-/** The face of the class, and the words that LANGUAGE.md keeps out of it. Runs in the project's folder. */
+/** All promises, 'The public face': its members and no others, and what LANGUAGE.md keeps out. Runs in the project's folder. */
 public final class FaceTest {
     private static final String FACE = "BAD DOWN LOST NONE OUTSIDE ROOM STATE TwoSlots(int,int,long) UNKNOWN "
         + "alter(int,int) block() boot() confirm() count(int) cut(int,int) finish() make(int,int,int,int) octet(int,int) offer() "
@@ -18,6 +18,10 @@ public final class FaceTest {
     public static void main(String[] args) throws IOException {
         face();
         constants();
+        inside(TwoSlots.class);
+        for (Class<?> nested : TwoSlots.class.getDeclaredClasses()) {
+            inside(nested);
+        }
         words();
         Due.end();
     }
@@ -63,6 +67,23 @@ public final class FaceTest {
         for (int i = 0; i < want.length; i++) {
             Due.is("constant " + i, constants[i], want[i]);
         }
+    }
+
+    /** LANGUAGE.md, rules 1, 5 and 11: names of private methods, static fields, parameters, fields. */
+    private static void inside(Class<?> type) {
+        for (Method m : type.getDeclaredMethods()) {
+            boolean ofTheFace = type == TwoSlots.class && Modifier.isPublic(m.getModifiers());
+            boolean named = FACE.contains(" " + m.getName() + "(");
+            Due.is(type.getName() + "." + m.getName() + " bears the name of a public one", named && !ofTheFace ? 1 : 0, 0);
+            Due.is(type.getName() + "." + m.getName() + " takes at most seven", Math.max(m.getParameterCount(), 7), 7);
+        }
+        int fields = 0;
+        for (Field f : type.getDeclaredFields()) {
+            boolean ofTheClass = Modifier.isStatic(f.getModifiers());
+            fields += ofTheClass ? 0 : 1;
+            Due.is(f.getName() + " is static and not final", ofTheClass && !Modifier.isFinal(f.getModifiers()) ? 1 : 0, 0);
+        }
+        Due.is(type.getName() + " has at most twenty fields", Math.max(fields, 20), 20);
     }
 
     private static void words() throws IOException {

@@ -289,7 +289,7 @@ public final class Promise05EdgesTest {
         Due.is("block(): the header is no block", x.block(), TwoSlots.BAD);
     }
 
-    /** Promise 5, of Terms 5: "of several the first one in the order in which a call names them" */
+    /** Promise 5, of Terms 5: "of several the first one in the order in which a call names them", and "to which slot. DOWN, STATE (nothing runs, or it is on trial; the tape stays), BAD" */
     private static void downComesFirst() {
         TwoSlots x = Due.booted(5);
         Due.down(x);

@@ -166,7 +166,7 @@ public final class Promise06EdgesTest {
         Due.is("finish()", x.finish(), 1);
     }
 
-    /** Promise 6, of Terms 5: "of several the first one in the order in which a call names them" */
+    /** Promise 6, of Terms 5: "of several the first one in the order in which a call names them", and "how many are awaited still. DOWN, STATE (nothing is offered, or none is awaited; the tape stays), BAD" */
     private static void downComesFirst() {
         TwoSlots x = Due.booted(5);
         Due.down(x);

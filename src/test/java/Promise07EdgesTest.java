@@ -148,7 +148,7 @@ public final class Promise07EdgesTest {
         }
     }
 
-    /** Promise 7, of Terms 5: "at the end, and a record that is TRYING the slot" */
+    /** Promise 7, of Terms 5: "at the end, and a record that is TRYING the slot", and "BAD, LOST." */
     private static void lostAtTheRecord() {
         for (int tear = 0; tear < 16; tear++) {
             TwoSlots x = filled(1);
@@ -241,7 +241,7 @@ public final class Promise07EdgesTest {
         Due.is("finish(): it is offered still", x.finish(), 1);
     }
 
-    /** Promise 7, of Terms 5: "of several the first one in the order in which a call names them" */
+    /** Promise 7, of Terms 5: "of several the first one in the order in which a call names them", and "the slot. DOWN, STATE (nothing is offered, or blocks are awaited), BAD" */
     private static void downComesFirst() {
         TwoSlots x = Due.booted(5);
         Due.down(x);

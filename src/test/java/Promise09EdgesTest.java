@@ -153,7 +153,7 @@ public final class Promise09EdgesTest {
         Due.is("confirm() with the record again", x.confirm(), 6);
     }
 
-    /** Promise 9, of Terms 5: "of several the first one in the order in which a call names them" */
+    /** Promise 9, of Terms 5: "of several the first one in the order in which a call names them", and "the COUNTER then. DOWN, STATE (nothing is on trial)" */
     private static void downComesFirst() {
         TwoSlots x = Due.booted(5);
         Due.down(x);

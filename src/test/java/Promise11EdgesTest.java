@@ -189,7 +189,7 @@ public final class Promise11EdgesTest {
         Due.is("nothing is other", Due.look(x), before);
     }
 
-    /** Promise 11, of Terms 5: "of several the first one in the order in which a call names them" */
+    /** Promise 11, of Terms 5: "of several the first one in the order in which a call names them", and "1. DOWN, UNKNOWN (the key), STATE" */
     private static void downComesFirst() {
         TwoSlots x = Due.booted(5);
         Due.down(x);

@@ -246,7 +246,7 @@ public final class Promise12EdgesTest {
         Due.is("alter(0, 0)", x.alter(0, 0), 14);
     }
 
-    /** Promise 12, of Terms 5: "of several the first one in the order in which a call names them" */
+    /** Promise 12, of Terms 5: "of several the first one in the order in which a call names them", and "it stays: 1. DOWN, OUTSIDE (n -1 .. 1000, tear)" */
     private static void downComesFirst() {
         TwoSlots x = Due.booted(5);
         Due.down(x);

@@ -55,7 +55,7 @@ public final class Promise18EdgesTest {
         }
     }
 
-    /** Promise 18: "what = 0 whether it is GOOD (1, 0), 1 whether its header is RIGHT; of a RIGHT one 2 VERSION, 3 SIZE, 4 KEY" */
+    /** Promise 18: "Of a slot: what = 0 whether it is GOOD (1, 0), 1 whether its header is RIGHT; of a RIGHT one 2 VERSION, 3 SIZE, 4 KEY" */
     private static void noSuchQuestion() {
         TwoSlots x = Due.booted(5);
         Due.update(x, 9, 2, 3, 0);

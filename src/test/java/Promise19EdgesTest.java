@@ -52,7 +52,7 @@ public final class Promise19EdgesTest {
         Due.is("record(7)", x.record(7), line);
     }
 
-    /** Promise 19: "what = 0 SERIAL, 1 ACTIVE, 2 TRYING (NONE), 3 TRIES, 4 REVOKED, 5 COUNTER, 6 its sector, 7 its line (0 .. 3)" */
+    /** Promise 19: "Of the newest record: what = 0 SERIAL, 1 ACTIVE, 2 TRYING (NONE), 3 TRIES, 4 REVOKED, 5 COUNTER, 6 its sector, 7 its line (0 .. 3)" */
     private static void noSuchQuestion() {
         TwoSlots x = Due.updated(6);
         int[] want = {2, 0, 1, 3, 0, 5, 0, 1};

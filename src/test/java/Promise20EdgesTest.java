@@ -38,7 +38,7 @@ public final class Promise20EdgesTest {
         Due.is("count(9)", x.count(9), TwoSlots.OUTSIDE);
     }
 
-    /** Promise 20: "0 writes (the one at which power went, too)" */
+    /** Promise 20: "How many: what = 0 writes (the one at which power went, too)" */
     private static void theWriteAtWhichPowerWent() {
         for (int n = 0; n < 5; n++) {
             TwoSlots x = Due.booted(5);
