@@ -60,6 +60,13 @@ public final class SentencesTest {
             before = behind;
         }
         Due.is("writes that set bits", erases, 5);
+        before = flashOfFinishBehind(0);
+        for (int n = 1; n <= 5; n++) {
+            int[] behind = flashOfFinishBehind(n);
+            int line = Arrays.mismatch(before, behind) / 16 * 16;
+            Due.is("write " + n + " of finish() clears bits of a line", onlyClears(before, behind, line) ? 1 : 0, 1);
+            before = behind;
+        }
     }
 
     private static void twoUpdates(TwoSlots x) {
@@ -76,6 +83,23 @@ public final class SentencesTest {
         x.rot(1, 9, 255);
         x.cut(n, 0);
         twoUpdates(x);
+        return flash(x);
+    }
+
+    /** The same behind writes of finish(), where bits of each of the header's lines have rotted behind the erase. */
+    private static int[] flashOfFinishBehind(int n) {
+        TwoSlots x = Due.booted(5);
+        Due.offer(x, 6, 1, 1, 100);
+        Due.blocks(x, 0, 1);
+        for (int i = 0; i < 64; i += 2) {
+            x.rot(33, i, 0xF3);
+        }
+        x.cut(n, 0);
+        Due.is("finish() with cut(" + n + ", 0)", x.finish(), n < 5 ? TwoSlots.LOST : 1);
+        return flash(x);
+    }
+
+    private static int[] flash(TwoSlots x) {
         int[] sectors = {0, 1, 2, 3, 33, 34};
         int[] bytes = new int[64 * sectors.length];
         for (int at = 0; at < bytes.length; at++) {
